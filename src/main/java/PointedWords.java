@@ -8,6 +8,7 @@ public final class PointedWords {
     public static final int NONE = -1;
 
     private static final int SEGMENTS = 4;
+    private static final int WORD_BITS = 64;
     private static final int MOST_WORDS = 64;
     private static final int MOST_BUDGET = 63;
     private static final int MOST_HANDLES = 16;
@@ -233,8 +234,8 @@ public final class PointedWords {
             return 0;
         }
         int bit = k * bits;
-        long word = message.wordAt(list.segment, list.start + bit / Long.SIZE);
-        return (word >>> (bit % Long.SIZE)) & Bits.lowest(bits);
+        long word = message.wordAt(list.segment, list.start + bit / WORD_BITS);
+        return (word >>> (bit % WORD_BITS)) & Bits.lowest(bits);
     }
 
     /** A row of at most 64 words. */
@@ -371,7 +372,7 @@ public final class PointedWords {
         }
 
         static long lowest(int count) {
-            return count >= Long.SIZE ? -1L : (1L << count) - 1;
+            return count >= WORD_BITS ? -1L : (1L << count) - 1;
         }
 
         /** A tag is put together likewise, its number of elements in the place of the offset. */
@@ -475,7 +476,7 @@ public final class PointedWords {
                 return number;
             }
             long bits = (long) number * elementBits(kind);
-            return (int) ((bits + Long.SIZE - 1) / Long.SIZE);
+            return (int) ((bits + WORD_BITS - 1) / WORD_BITS);
         }
 
         boolean elementsFit() {
@@ -668,7 +669,7 @@ public final class PointedWords {
             int first = put(found.span);
             row.values[at] = Bits.listPointer(first - at - 1, found.kind(), found.elements);
             copyWords(message.rows[found.segment], found.start, first, found.span);
-            int bitsInLast = found.elements * Found.elementBits(found.kind()) % Long.SIZE;
+            int bitsInLast = found.elements * Found.elementBits(found.kind()) % WORD_BITS;
             if (bitsInLast != 0) {
                 row.values[first + found.span - 1] &= Bits.lowest(bitsInLast);
             }
