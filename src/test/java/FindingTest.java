@@ -21,10 +21,8 @@ public final class FindingTest {
         checks.end();
     }
 
-    /** A message whose root has one pointer, this one, as word 1, and further words behind it. */
     private static PointedWords pointing(long pointer, long... behind) {
-        PointedWords x = Words.message(Words.struct(0, 0, 1), pointer);
-        return Words.fill(x, 0, behind);
+        return Words.pointing(pointer, behind);
     }
 
     private static PointedWords opened(PointedWords x) {
@@ -35,12 +33,7 @@ public final class FindingTest {
     private static void found(String what, PointedWords x, String parts, int cost) {
         opened(x);
         checks.due(what + ": go", Checks.answer(() -> x.go(0, 0)), 1);
-        StringBuilder got = new StringBuilder();
-        for (int part = 0; part < 7; part++) {
-            int asked = part;
-            got.append(part == 0 ? "" : " ").append(Checks.answer(() -> x.about(1, asked)));
-        }
-        checks.due(what + ": about", got.toString(), parts);
+        checks.due(what + ": about", Words.parts(x, 1), parts);
         checks.due(what + ": cost", 62 - x.left(), cost);
         checks.due(what + ": form", Checks.answer(x::form) instanceof Integer, true);
     }

@@ -35,6 +35,30 @@ final class Words {
         return object;
     }
 
+    /** A message whose root has one pointer, this one, as word 1, and further words behind it. */
+    static PointedWords pointing(long pointer, long... behind) {
+        return fill(message(struct(0, 0, 1), pointer), 0, behind);
+    }
+
+    static long[] repeated(long word, int count) {
+        long[] words = new long[count];
+        for (int i = 0; i < count; i++) {
+            words[i] = word;
+        }
+        return words;
+    }
+
+    /** The parts of what a handle stands for, in their order. */
+    static String parts(PointedWords object, int handle) {
+        StringBuilder text = new StringBuilder();
+        for (int part = 0; part < 7; part++) {
+            int asked = part;
+            text.append(part == 0 ? "" : " ");
+            text.append(Checks.answer(() -> object.about(handle, asked)));
+        }
+        return text.toString();
+    }
+
     static String formText(PointedWords object, int size) {
         StringBuilder text = new StringBuilder();
         for (int i = 0; i < size; i++) {
